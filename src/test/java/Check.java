@@ -20,13 +20,19 @@ final class Check {
         due(call + ", the digest after it", store.digest(), before);
     }
 
+    /** What the call throws itself; AssertionError, if the library throws it beneath the call. */
     static Class<?> thrownBy(Runnable run) {
         try {
             run.run();
         } catch (RuntimeException e) {
-            return e.getClass();
+            return ownClassOf(e);
         }
         return null;
+    }
+
+    static Class<?> ownClassOf(RuntimeException thrown) {
+        String thrower = thrown.getStackTrace()[0].getClassName();
+        return thrower.equals("Deeprows") || thrower.equals("LibraryStore") ? thrown.getClass() : AssertionError.class;
     }
 
     void end() {

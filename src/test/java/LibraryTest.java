@@ -137,7 +137,7 @@ public final class LibraryTest {
         try {
             return call.get();
         } catch (RuntimeException e) {
-            return e.getClass();
+            return Check.ownClassOf(e);
         }
     }
 }

@@ -399,7 +399,9 @@ public final class RowsTest {
             check.due("at", x.at(4, place), place);
         }
         check.due("setRows", x.setRows(4, 1), 2);
-        check.due("at", x.at(4, 2), 3);
+        for (int place = 0; place < 3; place++) {
+            check.due("at", x.at(4, place), 1 + place);
+        }
         check.due("house(1)", x.house(1), 2);
         for (int from : new int[] {2, 3, 4, 5, 12, GREATEST, GREATEST - 1, GREATEST - 2, GREATEST - 3}) {
             check.refused(x, "setRows from " + from, STATE, () -> x.setRows(4, from));
@@ -434,6 +436,13 @@ public final class RowsTest {
         z.none(4, 0);
         check.due("setRows", z.setRows(2, 0), 3);
         check.due("depth", z.depth(3), 4);
+        Deeprows u = ladder();
+        u.make(4, 1);
+        u.make(4, 2);
+        check.refused(u, "only the first one is too deep", STATE, () -> u.setRows(5, 3));
+        u.none(3, 0);
+        u.hang(3, 1, 1);
+        check.due("only the first one is deep", u.setRows(5, 3), 4);
     }
 
     private static void twin() {
