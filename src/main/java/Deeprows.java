@@ -258,7 +258,7 @@ public final class Deeprows {
     public int deepTwin(int row) throws IndexOutOfBoundsException, IllegalStateException {
         Row given = rowOf(row);
         requireRoom(rowsInDeepTwin(given, MOST_DEPTH));
-        return addDeepTwin(given, MOST_DEPTH).number;
+        return addDeepTwin(this, given, MOST_DEPTH).number;
     }
 
     public int copy(int row, int length)
@@ -511,16 +511,16 @@ public final class Deeprows {
         return needed;
     }
 
-    private Row addDeepTwin(Row row, int levels) {
+    private static Row addDeepTwin(Deeprows store, Row row, int levels) {
         Row fresh = copied(row, row.length);
         for (int place = 0; levels > 1 && place < row.length; place++) {
             Row part = row.hung[place];
             if (part != null) {
-                fresh.putRow(place, addDeepTwin(part, levels - 1));
+                fresh.putRow(place, addDeepTwin(store, part, levels - 1));
             }
         }
         // Added last: the rows that hang in it have lesser numbers.
-        return addRow(fresh);
+        return store.addRow(fresh);
     }
 
     private static int fitting(int kind, int given) {
@@ -826,7 +826,9 @@ public final class Deeprows {
         if (one.kind != two.kind || hashOf(one, MOST_LEVELS) != hashOf(two, MOST_LEVELS)) {
             return false;
         }
-        writeAnew(otherWords, two);
+        // Not by writeAnew(): from digest() on, calls would go more than eight deep.
+        otherWords.setLength(0);
+        writeRow(otherWords, two, MOST_LEVELS);
         if (words.length() != otherWords.length()) {
             return false;
         }

@@ -5,8 +5,8 @@ public final class AskedTest {
     private static final Class<IllegalArgumentException> ARGUMENT = IllegalArgumentException.class;
     private static final Class<IllegalStateException> STATE = IllegalStateException.class;
     private static final Class<IndexOutOfBoundsException> BOUNDS = IndexOutOfBoundsException.class;
-    private static final int LEAST = Integer.MIN_VALUE;
-    private static final int GREATEST = Integer.MAX_VALUE;
+    private static final int LEAST = Stores.LEAST;
+    private static final int GREATEST = Stores.GREATEST;
 
     private static final Check check = new Check();
 
@@ -24,14 +24,6 @@ public final class AskedTest {
         differ();
         compare();
         check.end();
-    }
-
-    private static Deeprows rows(int kind, int... lengths) {
-        Deeprows x = new Deeprows();
-        for (int length : lengths) {
-            x.make(kind, length);
-        }
-        return x;
     }
 
     private static void kindAndLength() {
@@ -110,7 +102,7 @@ public final class AskedTest {
 
     private static void isDeep() {
         for (int kind = 0; kind <= 4; kind++) {
-            Deeprows x = rows(kind, 2, 2, 3, 0, 0);
+            Deeprows x = Stores.rows(kind, 2, 2, 3, 0, 0);
             check.due("alike", x.isDeep(0, 1), true);
             check.due("the same", x.isDeep(0, 0), true);
             check.due("of other length", x.isDeep(0, 2), false);
@@ -143,7 +135,7 @@ public final class AskedTest {
     }
 
     private static void isDeepOfThings() {
-        Deeprows x = rows(4, 1, 1);
+        Deeprows x = Stores.rows(4, 1, 1);
         x.put(0, 0, 1);
         x.say(1, 0, 1);
         check.due("a number and a text of the same number", x.isDeep(0, 1), false);
@@ -188,7 +180,7 @@ public final class AskedTest {
 
     private static void isFlat() {
         for (int kind = 0; kind <= 4; kind++) {
-            Deeprows x = rows(kind, 2, 2, 3, 0, 0);
+            Deeprows x = Stores.rows(kind, 2, 2, 3, 0, 0);
             check.due("alike", x.isFlat(0, 1), true);
             check.due("the same", x.isFlat(0, 0), true);
             check.due("of other length", x.isFlat(0, 2), false);
@@ -206,7 +198,7 @@ public final class AskedTest {
             check.refused(x, "no row", BOUNDS, () -> x.isFlat(-1, 5));
             check.refused(x, "no row", BOUNDS, () -> x.isFlat(5, LEAST));
         }
-        Deeprows y = rows(4, 1, 1, 2, 2);
+        Deeprows y = Stores.rows(4, 1, 1, 2, 2);
         y.hang(2, 0, 0);
         y.hang(3, 0, 1);
         check.due("other rows hang there", y.isFlat(2, 3), false);
@@ -374,7 +366,7 @@ public final class AskedTest {
 
     private static void differ() {
         for (int kind = 0; kind <= 4; kind++) {
-            Deeprows x = rows(kind, 3, 3, 4, 0, 0);
+            Deeprows x = Stores.rows(kind, 3, 3, 4, 0, 0);
             check.due("alike", x.differ(0, 1), -1);
             check.due("the same", x.differ(2, 2), -1);
             check.due("longer", x.differ(0, 2), 3);
@@ -393,7 +385,7 @@ public final class AskedTest {
             check.refused(x, "no row", BOUNDS, () -> x.differ(6, 0));
             check.refused(x, "no row", BOUNDS, () -> x.differ(5, -1));
         }
-        Deeprows y = rows(4, 1, 1, 2, 2);
+        Deeprows y = Stores.rows(4, 1, 1, 2, 2);
         y.hang(2, 1, 0);
         y.hang(3, 1, 1);
         check.due("unlike rows that are alike", y.differ(2, 3), 1);
@@ -405,7 +397,7 @@ public final class AskedTest {
 
     private static void compare() {
         for (int kind = 0; kind <= 3; kind++) {
-            Deeprows x = rows(kind, 3, 3, 4, 0, 0);
+            Deeprows x = Stores.rows(kind, 3, 3, 4, 0, 0);
             check.due("alike", x.compare(0, 1), 0);
             check.due("the same", x.compare(0, 0), 0);
             check.due("shorter", x.compare(0, 2), -1);
@@ -429,13 +421,13 @@ public final class AskedTest {
             check.refused(x, "no row", BOUNDS, () -> x.compare(0, GREATEST));
         }
         for (int kind = 0; kind <= 1; kind++) {
-            Deeprows x = rows(kind, 1, 1);
+            Deeprows x = Stores.rows(kind, 1, 1);
             x.put(0, 0, -999);
             check.due("below 0", x.compare(0, 1), -1);
             x.put(1, 0, 999);
             check.due("the greatest", x.compare(1, 0), 1);
         }
-        Deeprows y = rows(4, 1, 1);
+        Deeprows y = Stores.rows(4, 1, 1);
         check.refused(y, "things", ARGUMENT, () -> y.compare(0, 1));
         check.refused(y, "the same things", ARGUMENT, () -> y.compare(0, 0));
         check.refused(y, "no row", BOUNDS, () -> y.compare(0, 2));

@@ -9,28 +9,16 @@ public final class RoomTest {
 
     public static void main(String[] args) {
         // Once ahead, so that what the machine itself makes at the first call is not counted.
-        measured(fullest(), 1);
-        measured(fullest(), 0);
-        long whole = measured(fullest(), 0);
+        measured(Stores.dearest(), 1);
+        measured(Stores.dearest(), 0);
+        long whole = measured(Stores.dearest(), 0);
         check.due("512 digests make " + whole + " bytes, less than 200000", whole < 200000, true);
-        long texts = measured(fullest(), 1);
+        long texts = measured(Stores.dearest(), 1);
         // A text of 4264 signs a call; a sign is a byte here.
         check.due("512 texts make " + texts + " bytes, less than 2600000", texts < 2600000, true);
-        long rows = measured(fullest(), 2);
+        long rows = measured(Stores.dearest(), 2);
         check.due("512 twins of one row make " + rows + " bytes, less than 400000", rows < 400000, true);
         check.end();
-    }
-
-    /** Twelve rows, as many as can be of the greatest depth and the longest text. */
-    private static Deeprows fullest() {
-        Deeprows x = new Deeprows();
-        x.make(1, 4);
-        x.fill(0, -999);
-        for (int row = 1; row < 12; row++) {
-            x.make(4, 4);
-            x.fillRow(row, Math.min(row - 1, 2));
-        }
-        return x;
     }
 
     private static long measured(Deeprows x, int what) {

@@ -3,8 +3,8 @@ public final class RowsTest {
     private static final Class<IllegalArgumentException> ARGUMENT = IllegalArgumentException.class;
     private static final Class<IllegalStateException> STATE = IllegalStateException.class;
     private static final Class<IndexOutOfBoundsException> BOUNDS = IndexOutOfBoundsException.class;
-    private static final int LEAST = Integer.MIN_VALUE;
-    private static final int GREATEST = Integer.MAX_VALUE;
+    private static final int LEAST = Stores.LEAST;
+    private static final int GREATEST = Stores.GREATEST;
 
     private static final Check check = new Check();
 
@@ -27,36 +27,6 @@ public final class RowsTest {
         deepTwin();
         copy();
         check.end();
-    }
-
-    /** One row of each kind, three long, numbered by kind; in row 4 hangs row 0. */
-    private static Deeprows oneOfEach() {
-        Deeprows x = new Deeprows();
-        for (int kind = 0; kind <= 4; kind++) {
-            x.make(kind, 3);
-        }
-        x.hang(4, 0, 0);
-        return x;
-    }
-
-    /** Row 0 of depth 1, row 1 of depth 2, row 2 of depth 3, row 3 of depth 4, each two long. */
-    private static Deeprows ladder() {
-        Deeprows x = new Deeprows();
-        for (int row = 0; row < 4; row++) {
-            x.make(4, 2);
-        }
-        for (int row = 1; row < 4; row++) {
-            x.hang(row, 0, row - 1);
-        }
-        return x;
-    }
-
-    private static Deeprows full() {
-        Deeprows x = new Deeprows();
-        for (int row = 0; row < 12; row++) {
-            x.make(row % 5, 2);
-        }
-        return x;
     }
 
     private static void newObject() {
@@ -129,7 +99,7 @@ public final class RowsTest {
     }
 
     private static void put() {
-        Deeprows x = oneOfEach();
+        Deeprows x = Stores.oneOfEach();
         int[] numbers = {0, 1, -1, 2, -2, 25, 26, -26, -27, 27, 999, -999, 998, -998};
         for (int number : numbers) {
             for (int row = 0; row <= 4; row++) {
@@ -162,7 +132,7 @@ public final class RowsTest {
 
     private static void say() {
         String[] texts = {"", "null", "1", "1, 2", "[]", "true", "a", "ab", "-1", "[1]"};
-        Deeprows x = oneOfEach();
+        Deeprows x = Stores.oneOfEach();
         for (int text = 0; text < texts.length; text++) {
             check.due("say", x.say(4, 0, text), 4);
             check.due("what", x.what(4, 0), 2);
@@ -185,7 +155,7 @@ public final class RowsTest {
     }
 
     private static void none() {
-        Deeprows x = oneOfEach();
+        Deeprows x = Stores.oneOfEach();
         x.say(4, 1, 3);
         x.put(4, 2, 7);
         for (int place = 0; place < 3; place++) {
@@ -206,7 +176,7 @@ public final class RowsTest {
     }
 
     private static void hang() {
-        Deeprows x = oneOfEach();
+        Deeprows x = Stores.oneOfEach();
         for (int other = 0; other <= 3; other++) {
             check.due("hang", x.hang(4, 1, other), 2);
             check.due("what", x.what(4, 1), 3);
@@ -234,7 +204,7 @@ public final class RowsTest {
     }
 
     private static void hangDepth() {
-        Deeprows x = ladder();
+        Deeprows x = Stores.ladder();
         check.due("depth", x.depth(3), 4);
         x.make(4, 2);
         check.refused(x, "hang too deep", STATE, () -> x.hang(4, 0, 3));
@@ -258,7 +228,7 @@ public final class RowsTest {
     }
 
     private static void swap() {
-        Deeprows x = oneOfEach();
+        Deeprows x = Stores.oneOfEach();
         x.setAll(0, 1, 1, -1);
         check.due("swap", x.swap(0, 0, 2), 0);
         check.due("text", x.text(0), "[3, 2, 1]");
@@ -290,7 +260,7 @@ public final class RowsTest {
     }
 
     private static void fill() {
-        Deeprows x = oneOfEach();
+        Deeprows x = Stores.oneOfEach();
         String[] texts = {"[-27, -27, -27]", "[-81000000000, -81000000000, -81000000000]",
             "[true, true, true]", "[z, z, z]", "[-27, -27, -27]"};
         for (int row = 4; row >= 0; row--) {
@@ -312,7 +282,7 @@ public final class RowsTest {
     }
 
     private static void fillRow() {
-        Deeprows x = oneOfEach();
+        Deeprows x = Stores.oneOfEach();
         check.due("fillRow", x.fillRow(4, 1), 2);
         check.due("text", x.text(4), "[[0, 0, 0], [0, 0, 0], [0, 0, 0]]");
         for (int place = 0; place < 3; place++) {
@@ -332,7 +302,7 @@ public final class RowsTest {
         }
         check.refused(x, "fillRow with itself", STATE, () -> x.fillRow(4, 4));
         check.refused(x, "fillRow with a later one", STATE, () -> x.fillRow(4, 5));
-        Deeprows y = ladder();
+        Deeprows y = Stores.ladder();
         y.make(4, 2);
         check.refused(y, "fillRow too deep", STATE, () -> y.fillRow(4, 3));
         check.due("fillRow", y.fillRow(4, 2), 4);
@@ -354,7 +324,7 @@ public final class RowsTest {
     }
 
     private static void setAll() {
-        Deeprows x = oneOfEach();
+        Deeprows x = Stores.oneOfEach();
         check.due("setAll", x.setAll(0, -3, 2, -1), 3);
         check.due("text", x.text(0), "[-3, -1, 1]");
         check.due("setAll", x.setAll(1, 998, 1, 3), 3);
@@ -392,7 +362,7 @@ public final class RowsTest {
     }
 
     private static void setRows() {
-        Deeprows x = oneOfEach();
+        Deeprows x = Stores.oneOfEach();
         check.due("setRows", x.setRows(4, 0), 2);
         check.due("text", x.text(4), "[[0, 0, 0], [0, 0, 0], [false, false, false]]");
         for (int place = 0; place < 3; place++) {
@@ -420,14 +390,14 @@ public final class RowsTest {
         check.due("of a row 0 long none", x.setRows(5, GREATEST), 1);
         check.due("house(1)", x.house(1), 5);
         check.refused(x, "setRows from -1, 0 long", ARGUMENT, () -> x.setRows(5, -1));
-        Deeprows y = ladder();
+        Deeprows y = Stores.ladder();
         y.make(4, 2);
         check.refused(y, "setRows too deep", STATE, () -> y.setRows(4, 2));
         check.due("setRows", y.setRows(4, 1), 4);
         check.due("depth", y.depth(4), 4);
         check.due("house(2)", y.house(2), 0);
         check.due("house(1)", y.house(1), 1);
-        Deeprows z = ladder();
+        Deeprows z = Stores.ladder();
         z.none(2, 0);
         check.due("depth", z.depth(3), 2);
         z.make(4, 1);
@@ -436,7 +406,7 @@ public final class RowsTest {
         z.none(4, 0);
         check.due("setRows", z.setRows(2, 0), 3);
         check.due("depth", z.depth(3), 4);
-        Deeprows u = ladder();
+        Deeprows u = Stores.ladder();
         u.make(4, 1);
         u.make(4, 2);
         check.refused(u, "only the first one is too deep", STATE, () -> u.setRows(5, 3));
@@ -446,7 +416,7 @@ public final class RowsTest {
     }
 
     private static void twin() {
-        Deeprows x = oneOfEach();
+        Deeprows x = Stores.oneOfEach();
         for (int row = 0; row <= 4; row++) {
             x.put(row, 1, 27);
         }
@@ -464,7 +434,7 @@ public final class RowsTest {
         check.due("the first one stays", x.what(4, 0), 3);
         check.refused(x, "twin no row", BOUNDS, () -> x.twin(10));
         check.refused(x, "twin no row", BOUNDS, () -> x.twin(-1));
-        Deeprows y = full();
+        Deeprows y = Stores.full();
         check.refused(y, "twin with 12", STATE, () -> y.twin(0));
         check.refused(y, "twin no row with 12", BOUNDS, () -> y.twin(12));
     }
@@ -510,14 +480,14 @@ public final class RowsTest {
         }
         check.due("a row of no things", y.deepTwin(0), 6);
         check.due("text", y.text(6), "[false, true]");
-        Deeprows z = ladder();
+        Deeprows z = Stores.ladder();
         check.due("of depth 4", z.deepTwin(3), 7);
         check.due("text", z.text(7), "[[[[null, null], null], null], null]");
         check.due("at", z.at(5, 0), 4);
     }
 
     private static void copy() {
-        Deeprows x = oneOfEach();
+        Deeprows x = Stores.oneOfEach();
         String[] shorter = {"[7, 8]", "[21000000000, 24000000000]", "[true, false]", "[h, i]"};
         String[] longer = {"[7, 8, 9, 0]", "[21000000000, 24000000000, 27000000000, 0]",
             "[true, false, true, false]", "[h, i, j, a]"};
@@ -548,7 +518,7 @@ public final class RowsTest {
         for (int wrong : new int[] {-1, 5, LEAST, GREATEST}) {
             check.refused(x, "copy no length", ARGUMENT, () -> x.copy(0, wrong));
         }
-        Deeprows y = full();
+        Deeprows y = Stores.full();
         check.refused(y, "copy with 12", STATE, () -> y.copy(0, 1));
         check.refused(y, "copy of things with 12", ARGUMENT, () -> y.copy(4, 1));
         check.refused(y, "copy no length with 12", ARGUMENT, () -> y.copy(0, 5));

@@ -48,7 +48,7 @@ public final class WholeTest {
         x.drop();
         check.due("fill is no maker", x.house(1), 4);
         check.due("house(0)", x.house(0), 2);
-        for (int wrong : new int[] {-1, 6, Integer.MIN_VALUE, Integer.MAX_VALUE}) {
+        for (int wrong : new int[] {-1, 6, Stores.LEAST, Stores.GREATEST}) {
             check.refused(x, "house(" + wrong + ")", ARGUMENT, () -> x.house(wrong));
         }
     }
@@ -94,13 +94,7 @@ public final class WholeTest {
             x.make(row % 4 == 3 ? 4 : row % 4, row % 5);
             check.due("isSound()", x.isSound(), true);
         }
-        Deeprows y = new Deeprows();
-        y.make(1, 4);
-        y.fill(0, -999);
-        for (int row = 1; row < 12; row++) {
-            y.make(4, 4);
-            y.fillRow(row, Math.min(row - 1, 2));
-        }
+        Deeprows y = Stores.dearest();
         check.due("at the greatest depth", y.house(5), 4);
         check.due("many alike", y.house(4), 36);
         check.due("isSound()", y.isSound(), true);
