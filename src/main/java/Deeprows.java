@@ -807,8 +807,11 @@ public final class Deeprows {
         if (deep != areRowsDeep(two, one, MOST_LEVELS)) {
             return false;
         }
-        if (deep && !tellTheSame(one, two)) {
-            return false;
+        if (deep) {
+            writeAnew(otherWords, two);
+            if (!tellTheSame(one, two)) {
+                return false;
+            }
         }
         shell.putRow(0, one);
         otherShell.putRow(0, two);
@@ -822,13 +825,11 @@ public final class Deeprows {
         return flat == (firstUnlike(one, two) == NONE) && (deep || !flat);
     }
 
+    /** Whether they tell the same; the texts of both stand in words and otherWords. */
     private boolean tellTheSame(Row one, Row two) {
         if (one.kind != two.kind || hashOf(one, MOST_LEVELS) != hashOf(two, MOST_LEVELS)) {
             return false;
         }
-        // Not by writeAnew(): from digest() on, calls would go more than eight deep.
-        otherWords.setLength(0);
-        writeRow(otherWords, two, MOST_LEVELS);
         if (words.length() != otherWords.length()) {
             return false;
         }

@@ -25,6 +25,7 @@ public final class EdgesAskedTest {
         differAtTheEnds();
         compareAtTheEnds();
         compareTheFirstUnlikePlace();
+        compareBehindAlikePlaces();
         knockOften();
         housesOfNoneAndOfTwelve();
         soundAtTheGreatestDepth();
@@ -456,6 +457,36 @@ public final class EdgesAskedTest {
             x.fill(2, 1);
             check.due("29: shorter, but greater", x.compare(2, 1), 1);
             check.due("29: longer, but less", x.compare(1, 2), -1);
+        }
+    }
+
+    /** What stands alike ahead of the first unlike place counts nothing, be it less or greater. */
+    private static void compareBehindAlikePlaces() {
+        int[][] ordered = {{-999, 0, 999}, {-999, 0, 999}, {0, 1}, {0, 13, 25}};
+        for (int kind = 0; kind <= 3; kind++) {
+            for (int ahead : ordered[kind]) {
+                Deeprows x = Stores.rows(kind, 4, 4);
+                x.fill(0, ahead);
+                x.fill(1, ahead);
+                for (int place = 3; place >= 1; place--) {
+                    for (int one : ordered[kind]) {
+                        for (int two : ordered[kind]) {
+                            x.put(0, place, one);
+                            x.put(1, place, two);
+                            // Behind the place all is unlike just the other way round.
+                            for (int behind = place + 1; behind < 4; behind++) {
+                                x.put(0, behind, one == two ? ahead : two);
+                                x.put(1, behind, one == two ? ahead : one);
+                            }
+                            String which = one + " and " + two + " in place " + place + " behind " + ahead;
+                            check.due("29: " + which, x.compare(0, 1), Integer.compare(one, two));
+                            check.due("28: " + which, x.differ(0, 1), one == two ? -1 : place);
+                        }
+                    }
+                    x.put(0, place, ahead);
+                    x.put(1, place, ahead);
+                }
+            }
         }
     }
 

@@ -71,6 +71,9 @@ public final class FaceTest {
             check.due(field + " is private", Modifier.isPrivate(field.getModifiers()), true);
             if (Modifier.isStatic(field.getModifiers())) {
                 check.due(field + " is final", Modifier.isFinal(field.getModifiers()), true);
+                // Objects in them would be shared by all stores.
+                Class<?> type = field.getType();
+                check.due(field + " is a constant", type.isPrimitive() || type == String.class, true);
             }
         }
         check.due("the face", String.join("\n", face), String.join("\n", new TreeSet<>(List.of(FACE))));
